@@ -4,6 +4,7 @@ final class EyesTest {
         pairs();
         wrongPairs();
         eyes();
+        eyesOfOne();
         eyesByPair();
         corrected();
         correctedAtMost();
@@ -75,6 +76,15 @@ final class EyesTest {
         x.sort(1, 1);
         Check.due("none was seen", 100, x.eye(1));
         Check.due("none was seen", 100, x.eye(0));
+    }
+
+    private static void eyesOfOne() {
+        SherdField x = new SherdField();
+        x.walk(0, 0);
+        x.walk(1, 0);
+        x.find(0, 0, 0, 1);
+        Check.due("one of one", 100, x.eye(0));
+        Check.due("none of one", 0, x.eye(1));
     }
 
     /** The better one is told for each pair: here each is better in one of two. */

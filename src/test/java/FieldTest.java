@@ -15,6 +15,7 @@ final class FieldTest {
         gaps();
         led();
         many();
+        everythingFull();
         Check.end();
     }
 
@@ -291,6 +292,9 @@ final class FieldTest {
         Check.due("led", Check.NONE, x.led(2, 2));
         Check.due("led", Check.NONE, x.led(2, Integer.MAX_VALUE));
         Check.due("led", 3, x.led(3, 0));
+        x.find(0, 2, 0, 99);
+        Check.due("led, now by the other walk", 0, x.led(2, 0));
+        Check.due("led", 5, x.led(2, 1));
         Check.due("led, a pace without finds", Check.NONE, x.led(0, 0));
         Check.due("led, a gap", Check.NONE, x.led(19, 0));
         Check.due("led", Check.BAD, x.led(2, -1));
@@ -298,6 +302,30 @@ final class FieldTest {
         for (int wrong : new int[] {-1, 20, Integer.MIN_VALUE, Integer.MAX_VALUE}) {
             Check.due("led", Check.BAD, x.led(wrong, 0));
         }
+    }
+
+    /** The last walk, the last find and the last pace, where every row is as long as it may be. */
+    private static void everythingFull() {
+        SherdField x = new SherdField();
+        x.field(8, 8);
+        for (int walk = 0; walk < 60; walk++) {
+            x.walk(walk < 59 ? walk % 4 : 4, 7);
+        }
+        for (int find = 0; find < 200; find++) {
+            x.find(find < 100 ? find % 59 : 59, 56 + find % 8, 3, 1 + find / 100);
+        }
+        Check.due("its numbers", 200, x.told(59, 3));
+        Check.due("it tells", 1, x.told(59, 4));
+        Check.due("the last pace", 26, x.count(63, 3));
+        Check.due("the last find", 199, x.led(63, 12));
+        Check.due("no more", Check.NONE, x.led(63, 13));
+        Check.due("pairs", 15, x.pair(0, 4, 0));
+        Check.due("seen", 3000, x.pair(0, 4, 2));
+        Check.due("eye", 100, x.eye(4));
+        Check.due("worth", 78, x.worth(63, 0));
+        Check.due("greatest", 53, x.greatest());
+        Check.due("heap", x.heap(48, 99), x.heap(56, 99));
+        Check.due("mixed", 20, x.mixed(0));
     }
 
     private static void many() {

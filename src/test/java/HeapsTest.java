@@ -62,6 +62,10 @@ final class HeapsTest {
         SherdField x = new SherdField();
         Check.due("of like ones the first", 0, x.greatest());
         x.walk(0, 3);
+        x.walk(0, 0);
+        x.find(1, 2, 0, 1);
+        Check.due("the first ring around pace 2", 1, x.greatest());
+        x.spade(2, 0);
         x.find(0, 19, 0, 1);
         Check.due("the first ring around it", 13, x.greatest());
         x.find(0, 17, 0, 1);

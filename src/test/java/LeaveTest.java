@@ -61,7 +61,9 @@ final class LeaveTest {
             "rows 007 to 0000000000000000000000000007", "rows 1 to 2 days 0 to 400",
             "rows 1 to 2 days 400 to 400", "rows 1 to 2 days 0 to 0", "rows 1 to 2 but who 0",
             "rows 1 to 2 but who 4", "rows 1 to 2 but who 0 or 1 or 2 or 3 or 4",
-            "rows 1 to 2 days 0 to 400 but who 0 or 1 or 2 or 3 or 4",
+            "rows 1 to 2 days 0 to 400 but who 0 or 1 or 2 or 3 or 4", "rows 1 to 2 days 9 to 99",
+            "rows 0 to 7 days 100 to 400 but who 0 or 1 or 2 or 3 or 004",
+            " ".repeat(49) + "rows 1 to 2",
         };
         for (String text : good) {
             Check.due("'" + text + "'", 0, Check.leave(new SherdField(), text));
@@ -71,6 +73,9 @@ final class LeaveTest {
     private static void faults() {
         fault("", 0);
         fault("    ", 4);
+        fault(" ".repeat(60), 60);
+        fault("rows" + " ".repeat(56), 60);
+        fault("r".repeat(60), 0);
         fault("row 1 to 2", 0);
         fault("Rows 1 to 2", 0);
         fault("rowss 1 to 2", 0);
@@ -200,12 +205,13 @@ final class LeaveTest {
         SherdField x = new SherdField();
         Check.leave(x, "rows 2 to 4 days 10 to 20 but who 1 or 3");
         Check.leave(x, "rows 3 to 7 but who 0 or 4");
+        Check.leave(x, "rows 0 to 0");
         for (int walker = 0; walker < 5; walker++) {
             for (int row = 0; row < 8; row++) {
                 for (int day : new int[] {0, 9, 10, 15, 20, 21, 400}) {
                     boolean first = row >= 2 && row <= 4 && day >= 10 && day <= 20 && walker != 1 && walker != 3;
                     boolean second = row >= 3 && walker != 0 && walker != 4;
-                    int due = first ? 0 : second ? 1 : Check.NONE;
+                    int due = first ? 0 : second ? 1 : row == 0 ? 2 : Check.NONE;
                     Check.due("lets " + walker + " " + row + " " + day, due, x.lets(walker, row, day));
                 }
             }

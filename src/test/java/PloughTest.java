@@ -9,6 +9,7 @@ final class PloughTest {
         mixed();
         mixedOfLikeFits();
         mixedFarOff();
+        mixedByOne();
         Check.end();
     }
 
@@ -147,6 +148,16 @@ final class PloughTest {
         Check.due("7, 7, 6 of 7, 6, 7 and 6, 7, 7", 7, x.mixed(0));
         Check.due("7, 7, 6", 7, x.mixed(1));
         Check.due("7, 7, 6", 6, x.mixed(2));
+    }
+
+    /** One sherd more or less of a kind tells here. */
+    private static void mixedByOne() {
+        SherdField x = new SherdField();
+        x.profile(0, 0, 1);
+        Check.due("none counted", 0, x.mixed(0));
+        x.walk(0, 3);
+        x.find(0, 19, 0, 1);
+        Check.due("one counted", 20, x.mixed(0));
     }
 
     /** Squares here are far above what an int holds. */
