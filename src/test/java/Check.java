@@ -1,3 +1,7 @@
+import java.util.List;
+import java.util.function.Supplier;
+import java.util.function.ToIntFunction;
+
 /** Counts answers that are not as due, prints each, and ends a test's main method. */
 final class Check {
     static final int BAD = -1000000001;
@@ -41,6 +45,33 @@ final class Check {
     static int leave(SherdField field, String text) {
         lay(field, text);
         return field.leave();
+    }
+
+    /** The call answers want, and leaves all as it was. */
+    static void refused(String what, int want, Supplier<SherdField> make, ToIntFunction<SherdField> call) {
+        due(what, want, call.applyAsInt(make.get()));
+        same("behind refused " + what, State.of(make), State.of(() -> {
+            SherdField x = make.get();
+            call.applyAsInt(x);
+            return x;
+        }));
+    }
+
+    /** Prints the first row that is not the one that is due. */
+    static void same(String what, List<String> want, List<String> got) {
+        asked++;
+        int row = 0;
+        while (row < want.size() && row < got.size() && want.get(row).equals(got.get(row))) {
+            row++;
+        }
+        if (row < want.size() || row < got.size()) {
+            wrong++;
+            System.out.println(what + ": has " + rowOf(got, row) + ", due is " + rowOf(want, row));
+        }
+    }
+
+    private static String rowOf(List<String> rows, int row) {
+        return row < rows.size() ? rows.get(row) : "no row more";
     }
 
     static void end() {
