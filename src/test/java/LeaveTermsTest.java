@@ -158,6 +158,11 @@ final class LeaveTermsTest {
             text("rows " + (char) sign + " to 7", digit ? STANDS : 5);
             text("rows 0 to " + (char) sign, digit ? STANDS : 10);
             text("rows 0 to 0" + (char) sign, digit ? STANDS : 10);
+            // A sign just beside the digits would be a day in bounds, if it were taken for one.
+            boolean day = sign >= '0' && sign <= '9';
+            text("rows 0 to 7 days " + (char) sign + " to 400", day ? STANDS : 17);
+            text("rows 0 to 7 days 1" + (char) sign + " to 400", day ? STANDS : 17);
+            text("rows 0 to 7 days 0 to " + (char) sign, day ? STANDS : 22);
         }
         text("rows +1 to 2", 5);
         text("rows 1. to 2", 5);

@@ -10,6 +10,7 @@ final class RefusalsTest {
     public static void main(String[] args) {
         field();
         fieldLeavesTheRest();
+        fieldWalkedAgain();
         sort();
         isOf();
         walk();
@@ -99,6 +100,28 @@ final class RefusalsTest {
         Check.same("a new field behind 200 finds", State.of(Rich::unwalked), State.of(() -> {
             SherdField x = Rich.fullOfFinds();
             Check.due("field", 12, x.field(4, 3));
+            return x;
+        }));
+    }
+
+    /** What was found in the old field comes to no walk of the new one. */
+    private static void fieldWalkedAgain() {
+        Check.same("a new field walked again", State.of(Rich::field), State.of(() -> {
+            SherdField x = Rich.fullOfFinds();
+            x.field(4, 3);
+            Rich.walkAll(x);
+            return x;
+        }));
+        Check.same("a smaller field walked again", State.of(Rich::field), State.of(() -> {
+            SherdField x = Rich.unwalked();
+            x.field(8, 8);
+            for (int i = 0; i < 60; i++) {
+                x.walk(i % 4, i % 3);
+                x.find(i, 8 * (i % 3) + i % 8, i % 4, 99);
+                x.spade(i, 0);
+            }
+            x.field(4, 3);
+            Rich.walkAll(x);
             return x;
         }));
     }

@@ -12,6 +12,11 @@ final class Rich {
     /** Four by three paces on day 3; row 2 is a gap; the walks of row 0 are a pair. */
     static SherdField field() {
         SherdField x = unwalked();
+        walkAll(x);
+        return x;
+    }
+
+    static void walkAll(SherdField x) {
         x.walk(0, 0);
         x.walk(1, 0);
         x.walk(2, 1);
@@ -22,7 +27,6 @@ final class Rich {
         x.find(2, 7, 0, 2);
         x.find(1, 1, 3, 1);
         x.spade(7, 0);
-        return x;
     }
 
     /** As field(), but nobody walked it, and no spade was put in it. */
